@@ -16,6 +16,7 @@ public final class BackupsTest {
         dropReachesToTheNextFull();
         purgeWholeSegmentsUpToTheStart();
         purgeOnlyWhenOneIsDropped();
+        purgeUpToTheOldestThatIsStillKept();
         purgeArchivedOnesAlone();
         ofBackupOfWrongNumbers();
         mostBackupsOfOneObject();
@@ -226,6 +227,22 @@ public final class BackupsTest {
         Calls.wholeBackup(x, true);
         Due.same("17: PURGED with the next drop", x.count(4), 0);
         Due.same("17: online and LEFT are as they were", x.count(3) * 100 + x.count(5), 16);
+    }
+
+    private static void purgeUpToTheOldestThatIsStillKept() {
+        PageRescue x = new PageRescue(4, 2);
+        Calls.wholeBackup(x, true);
+        Calls.emptyCommits(x, 5);
+        Calls.wholeBackup(x, true);
+        Calls.wholeBackup(x, false);
+        Calls.emptyCommits(x, 7);
+        x.archive();
+        x.archive();
+        x.archive();
+        Calls.wholeBackup(x, true);
+        Due.same("17: the first alone is not above START 5", x.count(4), 2);
+        Calls.wholeBackup(x, true);
+        Due.same("17: all three are not above START 12", x.count(4), 0);
     }
 
     private static void purgeArchivedOnesAlone() {

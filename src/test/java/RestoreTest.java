@@ -7,6 +7,7 @@ public final class RestoreTest {
         restoreWithoutABackup();
         restoreOfWrongNumbers();
         restoreNeedsAnEndBelowTheCommit();
+        restoreToACommitDuringABackup();
         restoreTakesTheLatestOfTheChain();
         restoreTakesTheLatestBackupBefore();
         restoreStopsAtTheCommit();
@@ -62,6 +63,20 @@ public final class RestoreTest {
         Due.same("13: END is just below", x.restore(2), 0);
         Due.same("14: look", x.look(0), 1);
         Due.same("13: a backup after the commit", x.restore(1), 1);
+    }
+
+    private static void restoreToACommitDuringABackup() {
+        PageRescue x = new PageRescue(8, 3);
+        Calls.committed(x, 1, 0, 1);
+        Calls.wholeBackup(x, true);
+        Calls.committed(x, 2, 0);
+        x.backup(true);
+        x.step(4);
+        Calls.committed(x, 3, 0, 28);
+        x.step(4);
+        Due.same("16: START is below the commit's record, END is not", x.ofBackup(2, 2) * 10 + x.ofBackup(2, 3), 58);
+        Due.same("13: the backup before is taken", x.restore(3), 3);
+        Due.same("14: look", x.look(0) * 100 + x.look(1) * 10 + x.look(28), 313);
     }
 
     private static void restoreTakesTheLatestOfTheChain() {
