@@ -1,8 +1,14 @@
 /** Compares answers with those that are due, prints the wrong ones, and ends a test with its exit code. */
 final class Due {
     private static int wrong = 0;
+    private static String inCase = "";
 
     private Due() {
+    }
+
+    /** From now on what is wrong is told with this name before it. */
+    static void inCase(String name) {
+        inCase = name + ": ";
     }
 
     static void same(String call, long got, long want) {
@@ -37,6 +43,6 @@ final class Due {
 
     private static void tell(String call, String got, String want) {
         wrong++;
-        System.out.println(call + " answered " + got + ", due is " + want);
+        System.out.println(inCase + call + " answered " + got + ", due is " + want);
     }
 }
