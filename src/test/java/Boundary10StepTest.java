@@ -207,6 +207,32 @@ public final class Boundary10StepTest {
         }
     }
 
+    static void promise10_incrementalTakesThePagesNumberAtItsVisit() {
+        for (int page = 0; page < 7; page++) {
+            PageRescue x = new PageRescue(8, 1);
+            Calls.wholeBackup(x, true);
+            Calls.committed(x, 1, 4 * page, 4 * page + 4);
+            x.backup(false);
+            x.step(page + 1);
+            Calls.committed(x, 2, 4 * page, 4 * page + 4);
+            x.step(8);
+            Due.same("images", x.ofBackup(2, 4), 2);
+            Due.same("REDONE, page " + page + " alone", x.lose(), 1);
+        }
+    }
+
+    static void promise10_incrementalLeavesOutAPageChangedAfterItsVisit() {
+        PageRescue x = new PageRescue(8, 1);
+        Calls.wholeBackup(x, true);
+        x.backup(false);
+        x.step(4);
+        Calls.committed(x, 1, 12, 16);
+        x.step(4);
+        Due.same("images", x.ofBackup(2, 4), 1);
+        Due.same("of page 3, visited before", x.page(3, 3), 1);
+        Due.same("of page 4, visited after", x.page(4, 3), 2);
+    }
+
     private static void refused(int n) {
         Unchanged.inAllStates(x -> x.step(n), PageRescue.REFUSED);
     }

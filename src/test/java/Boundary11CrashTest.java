@@ -118,6 +118,23 @@ public final class Boundary11CrashTest {
         Due.same("from the disk", x.crash(-1), 1);
     }
 
+    /** The latest backup has no image of page 0, the one before it has. */
+    static void promise11_olderKeptBackupHasTheBestImage() {
+        PageRescue x = new PageRescue(8, 2);
+        Calls.committed(x, 1, 0, 4);
+        Calls.wholeBackup(x, true);
+        Calls.committed(x, 2, 4);
+        Calls.wholeBackup(x, false);
+        Due.same("images of page 0", x.page(0, 3), 1);
+        Due.same("nothing to REDO", x.crash(-1), 0);
+        Calls.wholeBackup(x, true);
+        Calls.committed(x, 3, 0);
+        Calls.wholeBackup(x, false);
+        Calls.wholeBackup(x, false);
+        Due.same("nothing to REDO again", x.crash(-1), 0);
+        Due.same("get", x.get(0) * 10 + x.get(4), 32);
+    }
+
     static void promise11_tornBestImageLeavesTheBackups() {
         PageRescue x = new PageRescue(8, 1);
         x.begin();
@@ -182,6 +199,37 @@ public final class Boundary11CrashTest {
         Due.same("readable", x.page(0, 2), 1);
     }
 
+    /** Pages from the disk, from the backup and from number 0, each with CHANGES to REDO. */
+    static void promise11_changesOfAllPagesAreCountedTogether() {
+        PageRescue x = new PageRescue(8, 1);
+        Calls.committed(x, 1, 0, 4, 8, 12);
+        Calls.committed(x, 1, 16, 20, 24, 28);
+        Due.same("from number 0", x.crash(-1), 8);
+        x.write(0);
+        x.write(7);
+        Due.same("two from the disk", x.crash(-1), 6);
+        Due.same("one of them torn", x.crash(7), 7);
+        Calls.wholeBackup(x, true);
+        Calls.committed(x, 2, 1, 5, 13, 29);
+        Due.same("all but the torn one from both", x.crash(0), 4);
+    }
+
+    static void promise11_tableIsAsBefore() {
+        PageRescue x = everyKeyPut();
+        String before = Calls.table(x);
+        x.crash(-1);
+        Due.same("nothing torn", Calls.table(x), before);
+        for (int page = 0; page < 8; page++) {
+            x.crash(page);
+            Due.same("torn " + page, Calls.table(x), before);
+        }
+        x.begin();
+        x.put(0, 7, false);
+        x.put(17, 7, true);
+        x.crash(4);
+        Due.same("and undone", Calls.table(x), before);
+    }
+
     static void promise11_scratchAreaStays() {
         PageRescue x = States.quiet();
         x.crash(0);
@@ -190,6 +238,26 @@ public final class Boundary11CrashTest {
         Calls.committed(y, 1, 0);
         y.crash(-1);
         Due.same("not open", y.look(0), PageRescue.NONE);
+    }
+
+    /** Each key has another value; some pages are on the disk, some in a backup, some on none as they are now. */
+    private static PageRescue everyKeyPut() {
+        PageRescue x = new PageRescue(8, 1);
+        for (int key = 0; key < 32; key += 4) {
+            x.begin();
+            for (int i = key; i < key + 4; i++) {
+                x.put(i, 100 + i, true);
+            }
+            x.commit();
+            x.archive();
+            x.archive();
+            x.write(key / 8);
+            if (key == 16) {
+                Calls.wholeBackup(x, true);
+            }
+        }
+        Due.same("records of the state", x.count(0), 40);
+        return x;
     }
 
     private static void torn(int page) {

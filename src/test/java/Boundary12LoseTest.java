@@ -72,6 +72,32 @@ public final class Boundary12LoseTest {
         Due.same("a key from the log", x.get(4), 2);
     }
 
+    static void promise12_numbersOnTheDiskStay() {
+        PageRescue x = new PageRescue(8, 1);
+        Calls.committed(x, 1, 0, 31);
+        x.write(0);
+        x.write(7);
+        x.lose();
+        Due.same("page 0", x.page(0, 1), 1);
+        Due.same("page 7", x.page(7, 1), 2);
+        for (int page = 0; page < 8; page++) {
+            Due.same("readable " + page, x.page(page, 2), 0);
+        }
+    }
+
+    static void promise12_tableIsAsBeforeTheOpenTransaction() {
+        PageRescue x = States.quiet();
+        String before = Calls.table(x);
+        x.begin();
+        x.put(0, 7, false);
+        x.put(31, 7, true);
+        x.put(31, 8, true);
+        Due.same("the UNDO before and these", x.lose(), 5);
+        Due.same("the table", Calls.table(x), before);
+        Due.same("the CHANGES by put and those of the UNDO", x.lose(), 8);
+        Due.same("the table again", Calls.table(x), before);
+    }
+
     static void promise12_imagesInBackupsStay() {
         PageRescue x = States.quiet();
         int images = x.page(1, 3);

@@ -258,12 +258,32 @@ public final class Boundary13RestoreTest {
         Due.same("a later commit is not", x.restore(2), 1);
     }
 
+    /** Each of eight commits puts the keys of one page; a backup stands between them. */
+    static void promise13_everyKeyIsBuilt() {
+        PageRescue x = new PageRescue(8, 1);
+        String[] due = new String[9];
+        for (int commit = 1; commit <= 8; commit++) {
+            x.begin();
+            for (int key = 4 * commit - 4; key < 4 * commit; key++) {
+                x.put(key, 100 + key, true);
+            }
+            x.commit();
+            x.archive();
+            due[commit] = Calls.table(x);
+            if (commit == 4) {
+                Calls.wholeBackup(x, true);
+            }
+        }
+        for (int commit = 8; commit >= 1; commit--) {
+            Due.same("restore(" + commit + ")", x.restore(commit), commit <= 4 ? 4 * commit : 4 * commit - 16);
+            Due.same("the scratch area at " + commit, Calls.scratch(x), due[commit]);
+        }
+    }
+
     static void promise13_changesNothingButTheScratchArea() {
-        PageRescue x = States.busy();
-        x.restore(2);
-        String before = Calls.allAnswers(x);
-        Due.same("restore", x.restore(2), x.restore(2));
-        Due.same("all answers", Calls.allAnswers(x), before);
+        Unchanged.butForTheScratchArea("new and committed", () -> commits(3), x -> x.restore(2), 2);
+        Unchanged.butForTheScratchArea("quiet", States::quiet, x -> x.restore(2), 2);
+        Unchanged.butForTheScratchArea("busy", States::busy, x -> x.restore(2), 2);
         Unchanged.after("restored", () -> {
             PageRescue y = States.busy();
             y.restore(2);

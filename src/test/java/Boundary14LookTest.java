@@ -87,28 +87,28 @@ public final class Boundary14LookTest {
         PageRescue x = new PageRescue(4, 1);
         Calls.committed(x, 1, 0);
         x.restore(1);
-        String before = looks(x);
+        String before = Calls.scratch(x);
         Calls.committed(x, 2, 0, 31);
-        Due.same("after commit", looks(x), before);
+        Due.same("after commit", Calls.scratch(x), before);
         Calls.aborted(x, 3, 0);
-        Due.same("after abort", looks(x), before);
+        Due.same("after abort", Calls.scratch(x), before);
         x.archive();
         x.write(0);
         Calls.wholeBackup(x, true);
         Calls.wholeBackup(x, false);
-        Due.same("after backups", looks(x), before);
+        Due.same("after backups", Calls.scratch(x), before);
         x.crash(0);
         x.lose();
-        Due.same("after crashes", looks(x), before);
+        Due.same("after crashes", Calls.scratch(x), before);
     }
 
     static void promise14_refusedAndGoneLeaveIt() {
         PageRescue x = States.purged();
-        String before = looks(x);
+        String before = Calls.scratch(x);
         Due.same("restore", x.restore(1), PageRescue.GONE);
         Due.same("restore", x.restore(3), PageRescue.REFUSED);
         Due.same("restore", x.restore(0), PageRescue.REFUSED);
-        Due.same("looks", looks(x), before);
+        Due.same("looks", Calls.scratch(x), before);
         Due.same("look", x.look(4), 1);
     }
 
@@ -135,13 +135,5 @@ public final class Boundary14LookTest {
         for (int key = 0; key < 32; key++) {
             Due.same("look(" + key + ") " + state, x.look(key), PageRescue.NONE);
         }
-    }
-
-    private static String looks(PageRescue x) {
-        StringBuilder all = new StringBuilder();
-        for (int key = 0; key < 32; key++) {
-            all.append(x.look(key)).append(' ');
-        }
-        return all.toString();
     }
 }

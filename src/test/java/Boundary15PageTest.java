@@ -14,6 +14,12 @@ public final class Boundary15PageTest {
         told(7);
     }
 
+    static void promise15_pagesBetweenAreTold() {
+        for (int page = 1; page < 7; page++) {
+            told(page);
+        }
+    }
+
     static void promise15_pageMinus1IsRefused() {
         pageIsRefused(-1);
     }

@@ -46,6 +46,28 @@ public final class BoundaryTermsTest {
         Due.same("a COMMIT is no CHANGE", x.page(1, 0), 4);
     }
 
+    static void terms_logCommitAndEndSayNothingOfKeys() {
+        PageRescue x = new PageRescue(8, 1);
+        x.begin();
+        x.put(0, 1, true);
+        x.put(5, 1, true);
+        x.put(31, 1, true);
+        String before = Calls.table(x);
+        x.commit();
+        Due.same("after a COMMIT", Calls.table(x), before);
+        Calls.emptyCommits(x, 1);
+        Due.same("after another", Calls.table(x), before);
+        x.begin();
+        x.put(0, 9, true);
+        x.put(30, 9, true);
+        x.abort();
+        Due.same("after an END", Calls.table(x), before);
+        Due.same("its records", x.count(0), 10);
+        Calls.emptyCommits(x, 1);
+        Due.same("CHANGES up to the last commit", x.restore(3), 7);
+        Due.same("in the scratch area", Calls.scratch(x), before);
+    }
+
     static void terms_logNoSegmentIsOnlineBeforeTheFirstRecord() {
         PageRescue x = new PageRescue(4, 1);
         x.begin();

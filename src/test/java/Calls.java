@@ -34,6 +34,24 @@ final class Calls {
         x.step(8);
     }
 
+    /** What all keys have now. */
+    static String table(PageRescue x) {
+        StringBuilder all = new StringBuilder();
+        for (int key = 0; key < 32; key++) {
+            all.append(x.get(key)).append(' ');
+        }
+        return all.toString();
+    }
+
+    /** What all keys have in the scratch area. */
+    static String scratch(PageRescue x) {
+        StringBuilder all = new StringBuilder();
+        for (int key = 0; key < 32; key++) {
+            all.append(x.look(key)).append(' ');
+        }
+        return all.toString();
+    }
+
     /** What the object answers to every question (113 calls and 5 for each finished backup). */
     static String allAnswers(PageRescue x) {
         StringBuilder all = new StringBuilder();

@@ -1,51 +1,88 @@
 import java.lang.reflect.Constructor;
+import java.lang.reflect.Executable;
 import java.lang.reflect.Field;
 import java.lang.reflect.Member;
 import java.lang.reflect.Method;
 import java.lang.reflect.Modifier;
-import java.util.Arrays;
-import java.util.Set;
+import java.util.ArrayList;
+import java.util.List;
 import java.util.TreeSet;
 
-/** The public face: the document's constants, constructor and methods, and no other visible member. */
+/** The public face: the document's constants, constructor and methods, line by line, and no other visible member. */
 public final class FaceTest {
-    private static final String[] FACE = {
-        "field DONE int 0", "field REFUSED int -1", "field FULL int -2", "field GONE int -3",
-        "field NONE long -1000000000000", "field ABSENT long 1000000000000",
-        "constructor [int, int]",
-        "int begin []", "int put [int, int, boolean]", "int commit []", "int abort []", "long get [int]",
-        "int write [int]", "int archive []", "int backup [boolean]", "int step [int]", "int crash [int]",
-        "int lose []", "int restore [int]", "long look [int]", "int page [int, int]",
-        "int ofBackup [int, int]", "int count [int]",
-    };
+    /** The lines of the document's face between its first and its last. */
+    static final List<String> LINES = List.of(
+        "public static final int DONE = 0;",
+        "public static final int REFUSED = -1;",
+        "public static final int FULL = -2;",
+        "public static final int GONE = -3;",
+        "public static final long NONE = -1000000000000L;",
+        "public static final long ABSENT = 1000000000000L;",
+        "public PageRescue(int size, int keep);",
+        "public int begin();",
+        "public int put(int key, int value, boolean present);",
+        "public int commit();",
+        "public int abort();",
+        "public long get(int key);",
+        "public int write(int page);",
+        "public int archive();",
+        "public int backup(boolean full);",
+        "public int step(int n);",
+        "public int crash(int page);",
+        "public int lose();",
+        "public int restore(int commit);",
+        "public long look(int key);",
+        "public int page(int page, int what);",
+        "public int ofBackup(int number, int what);",
+        "public int count(int what);");
 
     public static void main(String[] args) throws Exception {
         Class<?> type = PageRescue.class;
-        Due.that("public and final", Modifier.isPublic(type.getModifiers()) && Modifier.isFinal(type.getModifiers()));
-        Due.same("the face", visible(type).toString(), new TreeSet<>(Arrays.asList(FACE)).toString());
+        Due.same("the class", Modifier.toString(type.getModifiers()) + " " + type.getName(), "public final PageRescue");
+        Due.same("what it extends", type.getSuperclass().getName() + type.getInterfaces().length, "java.lang.Object0");
+        Due.same("the face", visible(type).toString(), due().toString());
         noNameTwice(type);
         nestedClassesAreStatic(type);
         Due.end();
     }
 
-    private static Set<String> visible(Class<?> type) throws Exception {
-        Set<String> seen = new TreeSet<>();
+    /** The names of parameters are not to be seen in the class, so they are left out. */
+    private static TreeSet<String> due() {
+        TreeSet<String> lines = new TreeSet<>();
+        for (String line : LINES) {
+            lines.add(line.replaceAll("(int|boolean) \\w+(?=[,)])", "$1"));
+        }
+        return lines;
+    }
+
+    private static TreeSet<String> visible(Class<?> type) throws Exception {
+        TreeSet<String> seen = new TreeSet<>();
         for (Field f : type.getDeclaredFields()) {
             if (isVisible(f)) {
-                seen.add("field " + f.getName() + " " + f.getType() + " " + f.get(null));
+                String end = f.getType() == long.class ? "L;" : ";";
+                seen.add(Modifier.toString(f.getModifiers()) + " " + f.getType() + " " + f.getName() + " = " + f.get(null) + end);
             }
         }
         for (Constructor<?> c : type.getDeclaredConstructors()) {
             if (isVisible(c)) {
-                seen.add("constructor " + Arrays.toString(c.getParameterTypes()));
+                seen.add(Modifier.toString(c.getModifiers()) + " PageRescue" + parameters(c) + ";");
             }
         }
         for (Method m : type.getDeclaredMethods()) {
             if (isVisible(m)) {
-                seen.add(m.getReturnType() + " " + m.getName() + " " + Arrays.toString(m.getParameterTypes()));
+                seen.add(Modifier.toString(m.getModifiers()) + " " + m.getReturnType() + " " + m.getName() + parameters(m) + ";");
             }
         }
         return seen;
+    }
+
+    private static String parameters(Executable called) {
+        List<String> types = new ArrayList<>();
+        for (Class<?> type : called.getParameterTypes()) {
+            types.add(type.getName());
+        }
+        String thrown = called.getExceptionTypes().length == 0 ? "" : " throws";
+        return "(" + String.join(", ", types) + ")" + thrown;
     }
 
     private static boolean isVisible(Member m) {

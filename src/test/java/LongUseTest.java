@@ -6,6 +6,7 @@ public final class LongUseTest {
         mostRecords();
         mostCommits();
         laterBackupsAnswer();
+        laterRecordsAnswer();
         laterCallsAnswer();
         Due.end();
     }
@@ -55,6 +56,20 @@ public final class LongUseTest {
             Calls.wholeBackup(x, i % 3 == 0);
         }
         Due.that("those of the first 512 calls are still told of", x.ofBackup(256, 2) == 0);
+        Due.same("backups, as README.md tells", x.count(2), 256);
+        Due.same("backups beyond them", x.backup(true), PageRescue.REFUSED);
+    }
+
+    private static void laterRecordsAnswer() {
+        PageRescue x = new PageRescue(8, 1);
+        for (int i = 0; i < 2000; i++) {
+            Calls.emptyCommits(x, 1);
+            x.archive();
+        }
+        Due.same("records, as README.md tells", x.count(0), 800);
+        Due.same("records beyond them", x.commit(), PageRescue.FULL);
+        Due.same("put", x.put(0, 1, true), PageRescue.FULL);
+        Due.same("the last commit is still told of", x.restore(800), 0);
     }
 
     private static void laterCallsAnswer() {
