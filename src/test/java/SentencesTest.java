@@ -69,7 +69,7 @@ public final class SentencesTest {
         Matcher face = FACE.matcher(document);
         Due.that("it has a face", face.find());
         String lines = "public final class PageRescue { " + String.join(" ", FaceTest.LINES) + " }";
-        Due.same("the face", inOneLine(face.group(1)), lines);
+        Due.same("the face", lines, inOneLine(face.group(1)));
         StringBuilder all = new StringBuilder();
         for (List<String> row : Sentences.ROWS) {
             all.append(row.get(0)).append(' ');
